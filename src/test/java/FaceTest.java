@@ -26,6 +26,7 @@ public final class FaceTest {
                 + "public long NaturalMachine.index(long,int,int) throws java.lang.IllegalArgumentException "
                 + "public long NaturalMachine.ip() "
                 + "public long NaturalMachine.register(int) ");
+        check.due("private methods with a public one's name", privateNamesakes(face), "");
         check.end();
     }
 
@@ -55,6 +56,20 @@ public final class FaceTest {
             }
         }
         return joined(all);
+    }
+
+    private static String privateNamesakes(Class<?> face) {
+        TreeSet<String> open = new TreeSet<>();
+        for (Method m : face.getMethods()) {
+            open.add(m.getName());
+        }
+        TreeSet<String> both = new TreeSet<>();
+        for (Method m : face.getDeclaredMethods()) {
+            if (Modifier.isPrivate(m.getModifiers()) && open.contains(m.getName())) {
+                both.add(m.getName());
+            }
+        }
+        return joined(both);
     }
 
     private static String joined(TreeSet<String> all) {
