@@ -101,24 +101,41 @@ public final class FaultTest {
         long[] nowhere = {-1, 512, 509, -4, 1L << 32, Long.MAX_VALUE, Long.MIN_VALUE};
         for (long address : nowhere) {
             String what = "at " + address;
-            CHECK.faults(what + " compare", with(Check.wide(0, Check.code(5, AT_B | 0x11)), 1, address), ADDRESS);
-            CHECK.faults(what + " first", with(Check.wide(0, Check.code(12, AT_A | 0x21)), 1, address), ADDRESS);
-            CHECK.faults(what + " second", with(Check.wide(0, Check.code(12, AT_B | 0x12)), 1, address), ADDRESS);
-            CHECK.faults(what + " not", with(Check.wide(0, Check.code(10, AT_A | 0x21)), 1, address), ADDRESS);
-            CHECK.faults(what + " move from", with(Check.wide(0, Check.code(31, AT_B | 0x12)), 1, address), ADDRESS);
-            CHECK.faults(what + " move to", with(Check.wide(0, Check.code(31, AT_A | 0x21)), 1, address), ADDRESS);
-            CHECK.faults(what + " jump", with(Check.narrow(0, Check.code(1, AT_A | 1)), 1, address), ADDRESS);
-            CHECK.faults(what + " call", with(Check.narrow(0, Check.code(3, AT_A | 1)), 1, address), ADDRESS);
-            CHECK.faults(what + " push", with(Check.wide(0, Check.code(43, AT_A | 1)), 1, address), ADDRESS);
-            CHECK.faults(what + " put", with(Check.wide(0, Check.code(55 | H, AT_A | 0x21).i16(1)), 1, address), ADDRESS);
-            CHECK.faults(what + " index", with(Check.narrow(0, Check.code(56 | H, AT_A | 1).i16(1)), 1, address), ADDRESS);
-            CHECK.faults(what + " relative", with(Check.narrow(0, Check.code(57 | H, AT_A | 1).i16(1)), 1, address), ADDRESS);
-            CHECK.faults(what + " immediate", with(Check.wide(0, Check.code(45, AT_A | 1).i16(0)), 1, address), ADDRESS);
+            CHECK.faults(what + " compare",
+                    with(Check.wide(0, Check.code(5, AT_B | 0x11)), 1, address), ADDRESS);
+            CHECK.faults(what + " first",
+                    with(Check.wide(0, Check.code(12, AT_A | 0x21)), 1, address), ADDRESS);
+            CHECK.faults(what + " second",
+                    with(Check.wide(0, Check.code(12, AT_B | 0x12)), 1, address), ADDRESS);
+            CHECK.faults(what + " not",
+                    with(Check.wide(0, Check.code(10, AT_A | 0x21)), 1, address), ADDRESS);
+            CHECK.faults(what + " move from",
+                    with(Check.wide(0, Check.code(31, AT_B | 0x12)), 1, address), ADDRESS);
+            CHECK.faults(what + " move to",
+                    with(Check.wide(0, Check.code(31, AT_A | 0x21)), 1, address), ADDRESS);
+            CHECK.faults(what + " jump",
+                    with(Check.narrow(0, Check.code(1, AT_A | 1)), 1, address), ADDRESS);
+            CHECK.faults(what + " call",
+                    with(Check.narrow(0, Check.code(3, AT_A | 1)), 1, address), ADDRESS);
+            CHECK.faults(what + " push",
+                    with(Check.wide(0, Check.code(43, AT_A | 1)), 1, address), ADDRESS);
+            CHECK.faults(what + " put",
+                    with(Check.wide(0, Check.code(55 | H, AT_A | 0x21).i16(1)), 1, address), ADDRESS);
+            CHECK.faults(what + " index",
+                    with(Check.narrow(0, Check.code(56 | H, AT_A | 1).i16(1)), 1, address), ADDRESS);
+            CHECK.faults(what + " relative",
+                    with(Check.narrow(0, Check.code(57 | H, AT_A | 1).i16(1)), 1, address), ADDRESS);
+            CHECK.faults(what + " immediate",
+                    with(Check.wide(0, Check.code(45, AT_A | 1).i16(0)), 1, address), ADDRESS);
         }
-        CHECK.faults("the sizes count: 8 at 505", with(Check.wide(0, Check.code(12 | H, AT_B | 0x12)), 1, 505), ADDRESS);
-        CHECK.steps("8 at 504", with(Check.wide(0, Check.code(12 | H, AT_B | 0x12)), 1, 504), 12);
-        CHECK.faults("a low byte of 4 at 509", with(Check.wide(0, Check.code(26, AT_B | 0x12)), 1, 509), ADDRESS);
-        CHECK.steps("an address that wraps", with(Check.wide(0, Check.code(29 | H, AT_B | 0x12).i16(9)), 1, -5), 29);
+        CHECK.faults("the sizes count: 8 at 505",
+                with(Check.wide(0, Check.code(12 | H, AT_B | 0x12)), 1, 505), ADDRESS);
+        CHECK.steps("8 at 504",
+                with(Check.wide(0, Check.code(12 | H, AT_B | 0x12)), 1, 504), 12);
+        CHECK.faults("a low byte of 4 at 509",
+                with(Check.wide(0, Check.code(26, AT_B | 0x12)), 1, 509), ADDRESS);
+        CHECK.steps("an address that wraps",
+                with(Check.wide(0, Check.code(29 | H, AT_B | 0x12).i16(9)), 1, -5), 29);
     }
 
     private static void divide() {

@@ -532,6 +532,11 @@ public final class StepTest {
         m = Check.narrow(0, Check.code(56 | T | H, 1).i64(0x8000000000000001L));
         goes("index of 64", m, 56, 10);
         CHECK.due("index of 64 with P = 4, all 64 bits", m.register(1), -1);
+        m = Check.wide(0, Check.code(56 | H, 1).i16(0x6002).then(56 | T, 2).i32(0x70000003L));
+        goes("the greatest width of 16", m, 56, 4);
+        CHECK.due("the greatest width of 16", m.register(1), 16);
+        goes("the greatest width of 32", m, 56, 10);
+        CHECK.due("the greatest width of 32", m.register(2), 24);
         m = with(Check.narrow(0, Check.code(56 | H, 64 | AT_A | 1).i16(0x1001).i16(0x8001)), 1, 100);
         goes("index into memory", m, 56, 6);
         CHECK.due("index into memory, P = 4", Check.number(m, 100, 8), LOW << 32);
