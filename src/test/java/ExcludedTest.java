@@ -1,29 +1,8 @@
 /**
  * Promises 7 and 10: of all pairs of first bytes, those that are excluded, or of no kind, are the fault
- * OPCODE, and no others are. What is excluded is written here as a list of rules beside the kinds.
+ * OPCODE, and no others are.
  */
 public final class ExcludedTest {
-    /** kind from, kind to, of o and q: these bits are to be looked at, and excluded when they are these. */
-    private static final int[][] RULES = {
-        {1, 1, 0xc0, 0x40, 0, 0}, {3, 3, 0xc0, 0x40, 0, 0},
-        {3, 3, 0, 0, 0x80, 0x80}, {3, 3, 0, 0, 0x40, 0x40}, {3, 3, 0, 0, 0x20, 0x20},
-        {5, 9, 0, 0, 0x08, 0x08},
-        {29, 36, 0x80, 0x80, 0x08, 0}, {40, 40, 0x80, 0x80, 0x08, 0}, {50, 51, 0x80, 0x80, 0x08, 0},
-        {37, 39, 0, 0, 0, 0}, {52, 52, 0, 0, 0, 0}, {58, 63, 0, 0, 0, 0},
-        {41, 41, 0, 0, 0x08, 0x08}, {41, 41, 0, 0, 0x80, 0x80},
-        {41, 41, 0, 0, 1, 1}, {41, 41, 0, 0, 2, 2}, {41, 41, 0, 0, 4, 4},
-        {42, 42, 0, 0, 0x08, 0x08}, {42, 42, 0, 0, 0x80, 0x80},
-        {42, 42, 0, 0, 0x20, 0x20}, {42, 42, 0, 0, 0x40, 0x40},
-        {43, 44, 0, 0, 0x10, 0x10}, {43, 44, 0, 0, 0x20, 0x20}, {43, 44, 0, 0, 0x40, 0x40},
-        {43, 44, 0, 0, 0x80, 0x80},
-        {53, 54, 0, 0, 0x10, 0x10}, {53, 54, 0, 0, 0x20, 0x20}, {53, 54, 0, 0, 0x40, 0x40},
-        {53, 54, 0, 0, 0x80, 0x80}, {53, 54, 0x40, 0x40, 0, 0},
-        {45, 49, 0, 0, 0x18, 0x10}, {45, 49, 0, 0, 0x20, 0x20}, {45, 49, 0, 0, 0x40, 0x40},
-        {45, 49, 0, 0, 0x80, 0x80},
-        {55, 57, 0xc0, 0, 0, 0}, {55, 57, 0, 0, 0x48, 0x40}, {55, 57, 0, 0, 0x80, 0x80},
-        {56, 57, 0, 0, 0x10, 0x10}, {56, 57, 0, 0, 0x20, 0x20}
-    };
-
     public static void main(String[] args) {
         Check check = new Check("ExcludedTest");
         for (int o = 0; o < 256; o++) {
@@ -35,7 +14,7 @@ public final class ExcludedTest {
     }
 
     private static void look(Check check, int o, int q) {
-        boolean excluded = isExcluded(o, q);
+        boolean excluded = Excluded.is(o, q);
         for (int wide = 0; wide < 2; wide++) {
             NaturalMachine m = new NaturalMachine(wide);
             // So that no other fault but BREAK is met: all numbers lie in the memory, and none is 0.
@@ -51,16 +30,18 @@ public final class ExcludedTest {
             int due = excluded ? NaturalMachine.OPCODE : other;
             check.due(what + ": fault", m.fault(), due);
             check.due(what + ": run(1)", done, due == NaturalMachine.NO_FAULT ? 1 : 0);
+            if (excluded) {
+                stays(check, what, m);
+            }
         }
     }
 
-    private static boolean isExcluded(int o, int q) {
-        int kind = o % 64;
-        for (int[] rule : RULES) {
-            if (kind >= rule[0] && kind <= rule[1] && (o & rule[2]) == rule[3] && (q & rule[4]) == rule[5]) {
-                return true;
-            }
+    private static void stays(Check check, String what, NaturalMachine m) {
+        check.due(what + ": state", m.state(), NaturalMachine.FAULTED);
+        check.due(what + ": ip", m.ip(), 0);
+        check.due(what + ": condition", m.condition(), false);
+        for (int r = 0; r < 8; r++) {
+            check.due(what + ": register", m.register(r), 256);
         }
-        return false;
     }
 }

@@ -6,8 +6,10 @@ import java.math.BigInteger;
  * programs are made up by a fixed row of numbers, so that every run of this test is the same.
  */
 public final class ModelTest {
-    private static final int MACHINES = 40000;
-    private static final int STEPS = 16;
+    private static final int MACHINES = 80000;
+    /** So few, and of the memory so little is looked at, that no object has more than 512 calls. */
+    private static final int STEPS = 8;
+    private static final int LOOKED_AT = 256;
 
     private static long seed = 20261115;
 
@@ -32,11 +34,7 @@ public final class ModelTest {
         int wide = number % 2;
         NaturalMachine m = new NaturalMachine(wide);
         Model model = new Model(wide == 1 ? 8 : 4);
-        for (int address = 0; address < 512; address++) {
-            int b = next(3) == 0 ? next(256) : next(4) == 0 ? 255 : next(3);
-            m.store(address, b, 1);
-            model.memory[address] = b;
-        }
+        fillMemory(m, model);
         for (int r = 0; r < 8; r++) {
             long v = value();
             m.setRegister(r, v);
@@ -57,6 +55,19 @@ public final class ModelTest {
             if (due >= 0) {
                 done[due]++;
             }
+        }
+        sameMemory(check, number, m, model);
+    }
+
+    private static void fillMemory(NaturalMachine m, Model model) {
+        for (int address = 0; address < 512; address += 8) {
+            long v = 0;
+            for (int i = 0; i < 8; i++) {
+                int b = next(3) == 0 ? next(256) : next(4) == 0 ? 255 : next(3);
+                model.memory[address + i] = b;
+                v |= (long) b << 8 * i;
+            }
+            m.store(address, v, 8);
         }
     }
 
@@ -112,10 +123,13 @@ public final class ModelTest {
         for (int r = 0; r < 8; r++) {
             check.due(what + ": R" + r, m.register(r), model.registers[r]);
         }
-        for (int address = 0; address < 512; address++) {
-            if (m.peek(address) != model.memory[address]) {
-                check.due(what + ": byte at " + address, m.peek(address), model.memory[address]);
-            }
+    }
+
+    /** One half of the memory: of two machines the lower one, of the next two the upper one. */
+    private static void sameMemory(Check check, int number, NaturalMachine m, Model model) {
+        int from = number / 2 % 2 * LOOKED_AT;
+        for (int address = from; address < from + LOOKED_AT; address++) {
+            check.due("machine " + number + ": byte at " + address, m.peek(address), model.memory[address]);
         }
     }
 

@@ -32,22 +32,6 @@ public final class StepTest {
         CHECK.end();
     }
 
-    private static NaturalMachine with(NaturalMachine m, int r, long v) {
-        m.setRegister(r, v);
-        return m;
-    }
-
-    /** Makes the condition true, by R7, and starts again where the code is. */
-    private static NaturalMachine whenTrue(NaturalMachine m) {
-        int back = (int) m.ip();
-        m.setRegister(7, 1);
-        m.store(500, 41 | Check.ab(0, 7) << 8, 2);
-        m.start(500);
-        m.step();
-        m.start(back);
-        return m;
-    }
-
     private static void goes(String what, NaturalMachine m, int kind, long ip) {
         CHECK.steps(what, m, kind);
         CHECK.due(what + ": ip()", m.ip(), ip);
@@ -63,56 +47,56 @@ public final class StepTest {
         goes("jump out of the memory", Check.wide(0, Check.code(2, 0xfe)), 2, -2);
         goes("T, condition false", Check.wide(10, Check.code(2 | T, 5)), 2, 22);
         goes("T and H, condition false", Check.wide(10, Check.code(2 | T | H, 5)), 2, 12);
-        goes("T, condition true", whenTrue(Check.wide(10, Check.code(2 | T, 5))), 2, 12);
-        goes("T and H, condition true", whenTrue(Check.wide(10, Check.code(2 | T | H, 5))), 2, 22);
+        goes("T, condition true", Check.whenTrue(Check.wide(10, Check.code(2 | T, 5))), 2, 12);
+        goes("T and H, condition true", Check.whenTrue(Check.wide(10, Check.code(2 | T | H, 5))), 2, 22);
     }
 
     private static void jump() {
-        goes("to R3", with(Check.wide(0, Check.code(1, 3)), 3, 77), 1, 77);
+        goes("to R3", Check.with(Check.wide(0, Check.code(1, 3)), 3, 77), 1, 77);
         goes("A is 0: base 0", Check.wide(9, Check.code(1, 0)), 1, 0);
-        goes("to 64 bits", with(Check.narrow(0, Check.code(1, 3)), 3, -5), 1, -5);
-        goes("R3 + immediate", with(Check.wide(0, Check.code(1 | T, 3).i32(-7)), 3, 77), 1, 70);
+        goes("to 64 bits", Check.with(Check.narrow(0, Check.code(1, 3)), 3, -5), 1, -5);
+        goes("R3 + immediate", Check.with(Check.wide(0, Check.code(1 | T, 3).i32(-7)), 3, 77), 1, 70);
         goes("immediate alone", Check.wide(0, Check.code(1 | T, 0).i32(100)), 1, 100);
         goes("immediate of 64", Check.narrow(0, Check.code(1 | T | H, 0).i64(1L << 40)), 1, 1L << 40);
         goes("NEXT is added", Check.wide(20, Check.code(1 | T, 16).i32(100)), 1, 126);
         goes("NEXT is added behind 64 bits", Check.wide(20, Check.code(1 | T | H, 16).i64(-30)), 1, 0);
         goes("NEXT alone", Check.wide(20, Check.code(1, 16)), 1, 22);
-        goes("32 of q and 64 alone do nothing", with(Check.wide(0, Check.code(1, 32 | 64 | 3)), 3, 77), 1, 77);
+        goes("32 and 64 alone do nothing", Check.with(Check.wide(0, Check.code(1, 32 | 64 | 3)), 3, 77), 1, 77);
         goes("128, false", Check.wide(0, Check.code(1 | T, 128).i32(100)), 1, 100);
         goes("128 and 64, false", Check.wide(0, Check.code(1 | T, 128 | 64).i32(100)), 1, 6);
-        goes("128, true", whenTrue(Check.wide(0, Check.code(1 | T, 128).i32(100))), 1, 6);
-        goes("128 and 64, true", whenTrue(Check.wide(0, Check.code(1 | T, 128 | 64).i32(100))), 1, 100);
+        goes("128, true", Check.whenTrue(Check.wide(0, Check.code(1 | T, 128).i32(100))), 1, 6);
+        goes("128 and 64, true", Check.whenTrue(Check.wide(0, Check.code(1 | T, 128 | 64).i32(100))), 1, 100);
         goes("idle, with NEXT told", Check.wide(0, Check.code(1 | T | H, 128 | 64 | 16).i64(100)), 1, 10);
     }
 
     private static void jumpThroughPointer() {
         long far = 0x1122334455667788L;
-        NaturalMachine m = with(Check.wide(0, Check.code(1, AT_A | 3)), 3, 100);
+        NaturalMachine m = Check.with(Check.wide(0, Check.code(1, AT_A | 3)), 3, 100);
         m.store(100, far, 8);
         goes("pointer at R3", m, 1, far);
-        m = with(Check.narrow(0, Check.code(1, AT_A | 3)), 3, 100);
+        m = Check.with(Check.narrow(0, Check.code(1, AT_A | 3)), 3, 100);
         m.store(100, -2, 8);
         goes("pointer of 4, the bits above 0", m, 1, 0xfffffffeL);
         // An index of 32 bits with k = 1, width 4: u = 2, c = 3.
         long index = 1L << 28 | 3 << 4 | 2;
-        m = with(Check.wide(0, Check.code(1 | T, AT_A | 3).i32(index)), 3, 100);
+        m = Check.with(Check.wide(0, Check.code(1 | T, AT_A | 3).i32(index)), 3, 100);
         m.store(119, 40, 8);
         goes("at R3 + the index, P = 8", m, 1, 40);
-        m = with(Check.narrow(0, Check.code(1 | T, AT_A | 3).i32(index)), 3, 100);
+        m = Check.with(Check.narrow(0, Check.code(1 | T, AT_A | 3).i32(index)), 3, 100);
         m.store(111, 41, 4);
         goes("at R3 + the index, P = 4", m, 1, 41);
         m = Check.wide(0, Check.code(1 | T | H, AT_A | 16).i64(300));
         m.store(300, 50, 8);
         goes("at the index of 64, NEXT added", m, 1, 60);
-        m = with(Check.narrow(0, Check.code(1, AT_A | 16 | 3)), 3, 100);
+        m = Check.with(Check.narrow(0, Check.code(1, AT_A | 16 | 3)), 3, 100);
         m.store(100, -1, 4);
         goes("pointer of 4 and NEXT", m, 1, LOW + 2);
-        m = with(Check.wide(0, Check.code(1, 128 | 64 | AT_A | 3)), 3, -1);
+        m = Check.with(Check.wide(0, Check.code(1, 128 | 64 | AT_A | 3)), 3, -1);
         goes("a jump that does nothing needs no pointer", m, 1, 2);
     }
 
     private static void call() {
-        NaturalMachine m = with(Check.wide(0x30, Check.code(3, 3)), 3, 77);
+        NaturalMachine m = Check.with(Check.wide(0x30, Check.code(3, 3)), 3, 77);
         goes("call", m, 3, 77);
         CHECK.due("call: R0", m.register(0), 504);
         CHECK.due("call: what is pushed", Check.number(m, 504, 8), 0x32);
@@ -125,7 +109,7 @@ public final class StepTest {
         m = Check.wide(0, Check.code(3 | T | H, 0).i64(-9));
         goes("call of 64 bits", m, 3, -9);
         CHECK.due("call of 64 bits: NEXT", Check.number(m, 504, 8), 10);
-        m = with(Check.wide(0, Check.code(3, AT_A | 1)), 1, 504);
+        m = Check.with(Check.wide(0, Check.code(3, AT_A | 1)), 1, 504);
         m.store(504, 60, 8);
         goes("the pointer is read before NEXT is pushed over it", m, 3, 60);
         CHECK.due("and NEXT lies there", Check.number(m, 504, 8), 2);
@@ -138,11 +122,11 @@ public final class StepTest {
         CHECK.due("done: ip()", m.ip(), 10);
         CHECK.due("done: R0", m.register(0), 512);
         CHECK.due("done: fault()", m.fault(), NaturalMachine.NO_FAULT);
-        m = with(Check.wide(0, Check.code(4, 0)), 0, 504);
+        m = Check.with(Check.wide(0, Check.code(4, 0)), 0, 504);
         m.store(504, -3, 8);
         goes("pointer of 8", m, 4, -3);
         CHECK.due("pointer of 8: R0", m.register(0), 512);
-        m = with(Check.narrow(0, Check.code(4, 0)), 0, 100);
+        m = Check.with(Check.narrow(0, Check.code(4, 0)), 0, 100);
         m.store(100, -3, 8);
         goes("pointer of 4", m, 4, LOW - 2);
         CHECK.due("pointer of 4: R0", m.register(0), 104);
@@ -153,7 +137,7 @@ public final class StepTest {
         for (int before = 0; before < 2; before++) {
             NaturalMachine m = Check.wide(0, Check.code(kindAndFlags, Check.ab(1, 2)));
             if (before == 1) {
-                whenTrue(m);
+                Check.whenTrue(m);
             }
             m.setRegister(1, first);
             m.setRegister(2, second);
@@ -181,48 +165,48 @@ public final class StepTest {
     }
 
     private static void compareSecond() {
-        NaturalMachine m = with(with(Check.wide(0, Check.code(5 | T, Check.ab(1, 2)).i16(-3)), 1, 7), 2, 10);
+        NaturalMachine m = Check.with(Check.wide(0, Check.code(5 | T, Check.ab(1, 2)).i16(-3)), 1, 7, 2, 10);
         goes("R2 + immediate", m, 5, 4);
         CHECK.due("R2 + immediate", m.condition(), true);
-        m = with(with(Check.wide(0, Check.code(5 | H, AT_B | Check.ab(1, 2))), 1, 7L << 32), 2, 100);
+        m = Check.with(Check.wide(0, Check.code(5 | H, AT_B | Check.ab(1, 2))), 1, 7L << 32, 2, 100);
         m.store(100, 7L << 32, 8);
         goes("8 bytes at R2", m, 5, 2);
         CHECK.due("8 bytes at R2", m.condition(), true);
-        m = with(with(Check.wide(0, Check.code(5, AT_B | Check.ab(1, 2))), 1, 7), 2, 508);
+        m = Check.with(Check.wide(0, Check.code(5, AT_B | Check.ab(1, 2))), 1, 7, 2, 508);
         m.store(508, 7, 4);
         goes("4 bytes at R2", m, 5, 2);
         CHECK.due("4 bytes at R2", m.condition(), true);
         // An index of 16 bits, negative, width 2: u = 1, c = 1.
-        m = with(with(Check.narrow(0, Check.code(5 | T, AT_B | Check.ab(1, 2)).i16(0x9005)), 1, 7), 2, 105);
+        m = Check.with(Check.narrow(0, Check.code(5 | T, AT_B | Check.ab(1, 2)).i16(0x9005)), 1, 7, 2, 105);
         m.store(100, 7, 4);
         goes("4 bytes at R2 + index", m, 5, 4);
         CHECK.due("4 bytes at R2 + index", m.condition(), true);
     }
 
     private static void compareImmediate() {
-        NaturalMachine m = with(Check.wide(0, Check.code(45, 1).i16(-2)), 1, 0xfffffffeL);
+        NaturalMachine m = Check.with(Check.wide(0, Check.code(45, 1).i16(-2)), 1, 0xfffffffeL);
         goes("R1 with 16 bits", m, 45, 4);
         CHECK.due("R1 with 16 bits", m.condition(), true);
-        m = with(Check.wide(0, Check.code(45 | H, 1).i16(-2)), 1, 0xfffffffeL);
+        m = Check.with(Check.wide(0, Check.code(45 | H, 1).i16(-2)), 1, 0xfffffffeL);
         goes("8 bytes with 16 bits", m, 45, 4);
         CHECK.due("8 bytes with 16 bits", m.condition(), false);
-        m = with(Check.wide(0, Check.code(46 | T, 1).i32(100000)), 1, 99999);
+        m = Check.with(Check.wide(0, Check.code(46 | T, 1).i32(100000)), 1, 99999);
         goes("at most, 32 bits", m, 46, 6);
         CHECK.due("at most, 32 bits", m.condition(), true);
-        m = with(Check.wide(0, Check.code(47 | T | H, 1).i32(-5)), 1, -5);
+        m = Check.with(Check.wide(0, Check.code(47 | T | H, 1).i32(-5)), 1, -5);
         goes("at least, 32 bits", m, 47, 6);
         CHECK.due("at least, 32 bits", m.condition(), true);
-        m = with(Check.wide(0, Check.code(48 | H, 1).i16(-1)), 1, -2);
+        m = Check.with(Check.wide(0, Check.code(48 | H, 1).i16(-1)), 1, -2);
         goes("at most, unsigned", m, 48, 4);
         CHECK.due("at most, unsigned", m.condition(), true);
-        m = with(Check.wide(0, Check.code(49, 1).i16(-1)), 1, 5);
+        m = Check.with(Check.wide(0, Check.code(49, 1).i16(-1)), 1, 5);
         goes("at least, unsigned", m, 49, 4);
         CHECK.due("at least, unsigned", m.condition(), false);
-        m = with(Check.wide(0, Check.code(45, AT_A | 1).i16(9)), 1, 508);
+        m = Check.with(Check.wide(0, Check.code(45, AT_A | 1).i16(9)), 1, 508);
         m.store(508, 9, 4);
         goes("number at R1", m, 45, 4);
         CHECK.due("number at R1", m.condition(), true);
-        m = with(Check.wide(0, Check.code(45 | T | H, 16 | AT_A | 1).i16(0x1001).i32(-9)), 1, 100);
+        m = Check.with(Check.wide(0, Check.code(45 | T | H, 16 | AT_A | 1).i16(0x1001).i32(-9)), 1, 100);
         m.store(108, -9, 8);
         goes("number at R1 + index", m, 45, 8);
         CHECK.due("number at R1 + index", m.condition(), true);
@@ -350,18 +334,18 @@ public final class StepTest {
         for (int i = 0; i < kinds.length; i++) {
             String what = "move " + kinds[i];
             long part = sizes[i] == 8 ? v : v & (1L << 8 * sizes[i]) - 1;
-            NaturalMachine m = with(with(Check.wide(0, Check.code(kinds[i], Check.ab(1, 2))), 1, -1), 2, v);
+            NaturalMachine m = Check.with(Check.wide(0, Check.code(kinds[i], Check.ab(1, 2))), 1, -1, 2, v);
             goes(what, m, kinds[i], 2);
             CHECK.due(what + ": register to register", m.register(1), part);
-            m = with(with(Check.narrow(0, Check.code(kinds[i], AT_A | Check.ab(1, 2))), 1, 100), 2, v);
+            m = Check.with(Check.narrow(0, Check.code(kinds[i], AT_A | Check.ab(1, 2))), 1, 100, 2, v);
             m.store(100, 0, 8);
             goes(what, m, kinds[i], 2);
             CHECK.due(what + ": register to memory", Check.number(m, 100, 8), part);
-            m = with(with(Check.wide(0, Check.code(kinds[i], AT_B | Check.ab(1, 2))), 1, -1), 2, 512 - sizes[i]);
+            m = Check.with(Check.wide(0, Check.code(kinds[i], AT_B | Check.ab(1, 2))), 1, -1, 2, 512 - sizes[i]);
             m.store(512 - sizes[i], v, sizes[i]);
             goes(what, m, kinds[i], 2);
             CHECK.due(what + ": memory to register", m.register(1), part);
-            m = with(with(Check.wide(0, Check.code(kinds[i], AT_A | AT_B | Check.ab(1, 2))), 1, 100), 2, 200);
+            m = Check.with(Check.wide(0, Check.code(kinds[i], AT_A | AT_B | Check.ab(1, 2))), 1, 100, 2, 200);
             m.store(200, v, 8);
             goes(what, m, kinds[i], 2);
             CHECK.due(what + ": memory to memory", Check.number(m, 100, 8), part);
@@ -400,57 +384,58 @@ public final class StepTest {
 
     private static void movePointer() {
         for (int kind = 50; kind <= 51; kind++) {
-            NaturalMachine m = with(Check.narrow(0, Check.code(kind, Check.ab(1, 2))), 2, -1);
+            NaturalMachine m = Check.with(Check.narrow(0, Check.code(kind, Check.ab(1, 2))), 2, -1);
             goes("pointer of 4", m, kind, 2);
             CHECK.due("pointer of 4", m.register(1), LOW);
-            m = with(Check.wide(0, Check.code(kind, Check.ab(1, 2))), 2, -1);
+            m = Check.with(Check.wide(0, Check.code(kind, Check.ab(1, 2))), 2, -1);
             goes("pointer of 8", m, kind, 2);
             CHECK.due("pointer of 8", m.register(1), -1);
-            m = with(with(Check.narrow(0, Check.code(kind, AT_A | Check.ab(1, 2))), 1, 508), 2, -1);
+            m = Check.with(Check.narrow(0, Check.code(kind, AT_A | Check.ab(1, 2))), 1, 508, 2, -1);
             goes("pointer of 4 to the end", m, kind, 2);
             CHECK.due("pointer of 4 to the end", Check.number(m, 504, 8), LOW << 32);
         }
     }
 
     private static void special() {
-        NaturalMachine m = with(Check.wide(0, Check.code(41, Check.ab(0, 3)).then(41, Check.ab(0, 2))), 3, -1);
+        Check.Code both = Check.code(41, Check.ab(0, 3)).then(41, Check.ab(0, 2));
+        NaturalMachine m = Check.with(Check.wide(0, both), 3, -1);
         goes("odd", m, 41, 2);
         CHECK.due("odd", m.condition(), true);
         m.setRegister(2, 1L << 40 | 2);
         goes("even", m, 41, 4);
         CHECK.due("even", m.condition(), false);
-        m = with(Check.wide(0, Check.code(42, 5)), 5, -1);
+        m = Check.with(Check.wide(0, Check.code(42, 5)), 5, -1);
         goes("condition false", m, 42, 2);
         CHECK.due("condition false", m.register(5), 0);
-        m = whenTrue(with(Check.wide(0, Check.code(42, 5)), 5, -1));
+        m = Check.whenTrue(Check.with(Check.wide(0, Check.code(42, 5)), 5, -1));
         goes("condition true", m, 42, 2);
         CHECK.due("condition true", m.register(5), 1);
-        m = with(Check.narrow(30, Check.code(42, Check.ab(5, 1))), 5, -1);
+        m = Check.with(Check.narrow(30, Check.code(42, Check.ab(5, 1))), 5, -1);
         goes("NEXT", m, 42, 32);
         CHECK.due("NEXT", m.register(5), 32);
     }
 
     private static void push() {
         long v = 0x1122334455667788L;
-        NaturalMachine m = with(Check.wide(0, Check.code(43, 1)), 1, v);
+        NaturalMachine m = Check.with(Check.wide(0, Check.code(43, 1)), 1, v);
         m.store(500, -1, 8);
         goes("push of 4", m, 43, 2);
         CHECK.due("push of 4: R0", m.register(0), 508);
         CHECK.due("push of 4: number", Check.number(m, 508, 4), 0x55667788L);
         CHECK.due("push of 4: below", Check.number(m, 504, 4), LOW);
-        m = with(Check.wide(0, Check.code(43 | H | T, 1).i16(-8)), 1, v);
+        m = Check.with(Check.wide(0, Check.code(43 | H | T, 1).i16(-8)), 1, v);
         goes("push of 8", m, 43, 4);
         CHECK.due("push of 8: R0", m.register(0), 504);
         CHECK.due("push of 8: number", Check.number(m, 504, 8), v - 8);
         m = Check.wide(0, Check.code(43 | H, 0));
         goes("push of R0", m, 43, 2);
         CHECK.due("push of R0: as it was before", Check.number(m, 504, 8), 512);
-        m = with(Check.narrow(0, Check.code(53 | T, AT_A | 1).i16(0x1001)), 1, 96);
+        m = Check.with(Check.narrow(0, Check.code(53 | T, AT_A | 1).i16(0x1001)), 1, 96);
         m.store(100, v, 8);
         goes("push of a pointer of 4", m, 53, 4);
         CHECK.due("push of a pointer of 4: R0", m.register(0), 508);
         CHECK.due("push of a pointer of 4: number", Check.number(m, 508, 4), 0x55667788L);
-        m = with(Check.wide(0, Check.code(53, AT_A | 1)), 1, 100);
+        m = Check.with(Check.wide(0, Check.code(53, AT_A | 1)), 1, 100);
         m.store(100, v, 8);
         goes("push of a pointer of 8", m, 53, 2);
         CHECK.due("push of a pointer of 8: R0", m.register(0), 504);
@@ -458,22 +443,22 @@ public final class StepTest {
     }
 
     private static void pop() {
-        NaturalMachine m = with(Check.wide(0, Check.code(44, 1)), 0, 100);
+        NaturalMachine m = Check.with(Check.wide(0, Check.code(44, 1)), 0, 100);
         m.store(100, 0x80000001L, 8);
         goes("pop of 4", m, 44, 2);
         CHECK.due("pop of 4: signed", m.register(1), -0x7fffffffL);
         CHECK.due("pop of 4: R0", m.register(0), 104);
-        m = with(Check.wide(0, Check.code(44 | H | T, 1).i16(-2)), 0, 504);
+        m = Check.with(Check.wide(0, Check.code(44 | H | T, 1).i16(-2)), 0, 504);
         m.store(504, 1, 8);
         goes("pop of 8", m, 44, 4);
         CHECK.due("pop of 8: number", m.register(1), -1);
         CHECK.due("pop of 8: R0", m.register(0), 512);
-        m = with(Check.narrow(0, Check.code(54 | T, 1).i16(1)), 0, 100);
+        m = Check.with(Check.narrow(0, Check.code(54 | T, 1).i16(1)), 0, 100);
         m.store(100, LOW, 8);
         goes("pop of a pointer of 4", m, 54, 4);
         CHECK.due("pop of a pointer of 4: number", m.register(1), 0);
         CHECK.due("pop of a pointer of 4: R0", m.register(0), 104);
-        m = with(Check.wide(0, Check.code(54, 1)), 0, 100);
+        m = Check.with(Check.wide(0, Check.code(54, 1)), 0, 100);
         m.store(100, LOW, 8);
         goes("pop of a pointer of 8", m, 54, 2);
         CHECK.due("pop of a pointer of 8: number", m.register(1), LOW);
@@ -483,19 +468,19 @@ public final class StepTest {
     }
 
     private static void popIntoR0() {
-        NaturalMachine m = with(Check.wide(0, Check.code(44 | T, 0).i16(3)), 0, 100);
+        NaturalMachine m = Check.with(Check.wide(0, Check.code(44 | T, 0).i16(3)), 0, 100);
         m.store(100, 200, 4);
         goes("pop into R0", m, 44, 4);
         CHECK.due("pop into R0", m.register(0), 203);
     }
 
     private static void popToMemory() {
-        NaturalMachine m = with(Check.wide(0, Check.code(44 | T, AT_A).i16(0x9001)), 0, 100);
+        NaturalMachine m = Check.with(Check.wide(0, Check.code(44 | T, AT_A).i16(0x9001)), 0, 100);
         m.store(100, 200, 4);
         goes("pop to R0 as it was, less 8", m, 44, 4);
         CHECK.due("pop to R0 as it was, less 8", Check.number(m, 92, 8), 200);
         CHECK.due("pop to R0 as it was: R0", m.register(0), 104);
-        m = with(with(Check.wide(0, Check.code(54, AT_A | 1)), 0, 100), 1, 300);
+        m = Check.with(Check.wide(0, Check.code(54, AT_A | 1)), 0, 100, 1, 300);
         m.store(100, -5, 8);
         goes("pop of a pointer to R1", m, 54, 2);
         CHECK.due("pop of a pointer to R1: number", Check.number(m, 300, 8), -5);
@@ -506,13 +491,13 @@ public final class StepTest {
     private static void putImmediate() {
         long[] due = {0xfe, 0xfffe, 0xfffffffeL, -2};
         for (int size = 0; size < 4; size++) {
-            NaturalMachine m = with(Check.wide(0, Check.code(55 | H, Check.ab(1, size)).i16(-2)), 1, 5);
+            NaturalMachine m = Check.with(Check.wide(0, Check.code(55 | H, Check.ab(1, size)).i16(-2)), 1, 5);
             goes("immediate of 16", m, 55, 4);
             CHECK.due("immediate of 16, size " + size, m.register(1), due[size]);
-            m = with(Check.wide(0, Check.code(55 | T, AT_A | Check.ab(1, size)).i32(-2)), 1, 100);
+            m = Check.with(Check.wide(0, Check.code(55 | T, AT_A | Check.ab(1, size)).i32(-2)), 1, 100);
             goes("immediate of 32", m, 55, 6);
             CHECK.due("immediate of 32, size " + size, Check.number(m, 100, 8), due[size]);
-            m = with(Check.narrow(0, Check.code(55 | T | H, Check.ab(1, size)).i64(-2)), 1, 5);
+            m = Check.with(Check.narrow(0, Check.code(55 | T | H, Check.ab(1, size)).i64(-2)), 1, 5);
             goes("immediate of 64", m, 55, 10);
             CHECK.due("immediate of 64, size " + size, m.register(1), due[size]);
         }
@@ -537,11 +522,11 @@ public final class StepTest {
         CHECK.due("the greatest width of 16", m.register(1), 16);
         goes("the greatest width of 32", m, 56, 10);
         CHECK.due("the greatest width of 32", m.register(2), 24);
-        m = with(Check.narrow(0, Check.code(56 | H, 64 | AT_A | 1).i16(0x1001).i16(0x8001)), 1, 100);
+        m = Check.with(Check.narrow(0, Check.code(56 | H, 64 | AT_A | 1).i16(0x1001).i16(0x8001)), 1, 100);
         goes("index into memory", m, 56, 6);
         CHECK.due("index into memory, P = 4", Check.number(m, 100, 8), LOW << 32);
         CHECK.due("and behind it", m.peek(108), 0);
-        m = with(Check.wide(0, Check.code(56 | H, AT_A | 1).i16(0x8001)), 1, 100);
+        m = Check.with(Check.wide(0, Check.code(56 | H, AT_A | 1).i16(0x8001)), 1, 100);
         goes("index into memory", m, 56, 4);
         CHECK.due("index into memory, P = 8", Check.number(m, 100, 8), -1);
     }
@@ -556,13 +541,13 @@ public final class StepTest {
         m = Check.wide(20, Check.code(57 | T | H, 1).i64(1L << 50));
         goes("NEXT + 64 bits", m, 57, 30);
         CHECK.due("NEXT + 64 bits", m.register(1), (1L << 50) + 30);
-        m = with(Check.narrow(20, Check.code(57 | H, 64 | AT_A | 1).i16(2).i16(-27)), 1, 100);
+        m = Check.with(Check.narrow(20, Check.code(57 | H, 64 | AT_A | 1).i16(2).i16(-27)), 1, 100);
         goes("NEXT + 16 bits into memory", m, 57, 26);
         CHECK.due("NEXT + 16 bits into memory", Check.number(m, 102, 8), LOW);
     }
 
     private static void bitsThatDoNothing() {
-        NaturalMachine m = with(Check.wide(0, Check.code(41 | H | T, Check.ab(0, 3))), 3, 1);
+        NaturalMachine m = Check.with(Check.wide(0, Check.code(41 | H | T, Check.ab(0, 3))), 3, 1);
         goes("41 with H and T", m, 41, 2);
         CHECK.due("41 with H and T", m.condition(), true);
         m = Check.narrow(0, Check.code(42 | H | T, Check.ab(3, 1)));
